@@ -255,7 +255,6 @@ public final class ZoneShelf {
         private void place(int number, int name, int hint) {
             names[number] = name;
             hints[number] = hint;
-            lengths[number] = 0;
             opened[number] = true;
         }
 

@@ -52,7 +52,7 @@ public final class LongRunsTest {
     }
 
     private void step() {
-        if (!shelf.isUp() && random.nextInt(3) == 0) {
+        if (!model.isUp() && random.nextInt(3) == 0) {
             check.due("mount()", shelf.mount(), model.mount());
             return;
         }

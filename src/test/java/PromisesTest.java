@@ -213,8 +213,9 @@ public final class PromisesTest {
         ZoneShelf x = filled(5);
         c.due("appendRow(0, 1, 65)", x.appendRow(0, 1, 65), false);
         c.due("object(0, 2)", x.object(0, 2), 0);
+        c.due("appendRow(1, 70, 60)", x.appendRow(1, 70, 60), true);
         c.due("appendRow(0, 1, 64)", x.appendRow(0, 1, 64), true);
-        c.due("appendRow(1, 1, 60)", x.appendRow(1, 1, 60), true);
+        c.due("word(1, 0), its neighbour's", x.word(1, 0), 70);
         c.due("appendRow(1, 1, 5)", x.appendRow(1, 1, 5), false);
         c.due("object(1, 2)", x.object(1, 2), 60);
         c.due("appendRow(1, 1, 4)", x.appendRow(1, 1, 4), true);
@@ -334,8 +335,8 @@ public final class PromisesTest {
         done(c);
     }
 
-    private static void syncKeepsAll() {
-        Check c = new Check("8 sync, a full shelf");
+    /** 22 of 24 objects with different words, some not OPEN. */
+    private static ZoneShelf crowded() {
         ZoneShelf x = filled(24);
         for (int object = 0; object < 24; object++) {
             x.appendRow(object, object * 1000 - 5, 8);
@@ -344,8 +345,13 @@ public final class PromisesTest {
         x.remove(4);
         x.remove(20);
         x.appendRow(23, 7, 20);
+        return x;
+    }
+
+    private static void syncKeepsAll() {
+        Check c = new Check("8 sync, a crowded shelf");
+        ZoneShelf x = crowded();
         x.sync();
-        String synced = Picture.of(x);
         for (int object = 0; object < 24; object++) {
             x.remove(object);
         }
@@ -355,7 +361,7 @@ public final class PromisesTest {
         }
         x.cut();
         x.mount();
-        c.due("all after the mount", Picture.of(x), synced);
+        c.due("all after the mount", Picture.of(x), Picture.of(crowded()));
         c.due("create(1, 0), numbers are those of then", x.create(1, 0), 4);
         done(c);
     }

@@ -1,5 +1,11 @@
+import java.lang.reflect.InvocationTargetException;
+import java.lang.reflect.Method;
+import java.lang.reflect.Modifier;
+
 /** Counts and prints the answers that are not the ones that are due. */
 final class Check {
+    private static int wrongInAll = 0;
+
     private final String about;
     private int wrong = 0;
 
@@ -9,8 +15,7 @@ final class Check {
 
     void due(String call, long got, long want) {
         if (got != want) {
-            wrong++;
-            System.out.println(about + ": " + call + " answered " + got + ", due is " + want);
+            wrong(call + " answered " + got + ", due is " + want);
         }
     }
 
@@ -20,18 +25,51 @@ final class Check {
 
     void due(String call, String got, String want) {
         if (!got.equals(want)) {
-            wrong++;
-            System.out.println(about + ": " + call + " answered\n" + got + "\ndue is\n" + want);
+            wrong(call + " answered\n" + got + "\ndue is\n" + want);
         }
+    }
+
+    private void wrong(String text) {
+        wrong++;
+        wrongInAll++;
+        System.out.println(about + ": " + text);
     }
 
     int wrong() {
         return wrong;
     }
 
-    static void end(int wrong) {
-        System.out.println(wrong == 0 ? "all answers are as due" : wrong + " answers are not as due");
-        if (wrong != 0) {
+    /** Runs each static method that is not private and takes and answers nothing, so that no test is forgotten. */
+    static void runAll(Class<?> tests) {
+        int count = 0;
+        for (Method m : tests.getDeclaredMethods()) {
+            if (isTest(m)) {
+                run(m);
+                count++;
+            }
+        }
+        System.out.println(count + " tests");
+        end();
+    }
+
+    private static boolean isTest(Method m) {
+        return Modifier.isStatic(m.getModifiers()) && !Modifier.isPrivate(m.getModifiers())
+            && !m.isSynthetic() && m.getParameterCount() == 0 && m.getReturnType() == void.class;
+    }
+
+    private static void run(Method m) {
+        try {
+            m.invoke(null);
+        } catch (InvocationTargetException e) {
+            new Check(m.getName()).wrong("threw " + e.getCause());
+        } catch (IllegalAccessException e) {
+            new Check(m.getName()).wrong("can't be run: " + e);
+        }
+    }
+
+    static void end() {
+        System.out.println(wrongInAll == 0 ? "all answers are as due" : wrongInAll + " answers are not as due");
+        if (wrongInAll != 0) {
             System.exit(1);
         }
     }

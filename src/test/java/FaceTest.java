@@ -40,7 +40,7 @@ public final class FaceTest {
             c.due(inside + " is static", Modifier.isStatic(m), true);
             c.due(inside + " is public or protected", Modifier.isPublic(m) || Modifier.isProtected(m), false);
         }
-        Check.end(c.wrong());
+        Check.end();
     }
 
     private static Set<String> seen() {

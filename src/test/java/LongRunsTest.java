@@ -14,6 +14,8 @@ public final class LongRunsTest {
     private final int names;
     private final int longestRow;
     private final int removals;
+    /** One change in so many is of the power, a sync or a tidy. */
+    private final int powerEvery;
 
     private LongRunsTest(int seed) {
         random = new Random(seed);
@@ -21,18 +23,19 @@ public final class LongRunsTest {
         names = seed % 2 == 0 ? 12 : 60;
         longestRow = seed % 3 == 0 ? 70 : 12;
         removals = seed % 5 == 0 ? 1 : 4;
+        powerEvery = seed % 7 == 0 ? 2 : 6;
     }
 
     public static void main(String[] args) {
-        int wrong = 0;
-        for (int seed = 1; seed <= RUNS && wrong == 0; seed++) {
+        boolean asDue = true;
+        for (int seed = 1; seed <= RUNS && asDue; seed++) {
             LongRunsTest run = new LongRunsTest(seed);
-            for (int call = 0; call < CALLS && run.check.wrong() == 0; call++) {
+            for (int call = 0; call < CALLS && asDue; call++) {
                 run.step();
+                asDue = run.check.wrong() == 0;
             }
-            wrong += run.check.wrong();
         }
-        Check.end(wrong);
+        Check.end();
     }
 
     private int odd() {
@@ -47,8 +50,15 @@ public final class LongRunsTest {
         return random.nextInt(8) == 0 ? 9999 - random.nextInt(3) : upTo(names);
     }
 
+    /** Mostly one that there is: the model knows, and is not bound to 512 calls. */
     private int object() {
-        return upTo(random.nextBoolean() ? 6 : 24);
+        int there = model.objects();
+        return there > 0 && random.nextInt(4) != 0 ? model.list(random.nextInt(there)) : upTo(24);
+    }
+
+    private int wordOf(int object) {
+        int length = model.object(object, 2);
+        return length > 0 && random.nextInt(4) != 0 ? random.nextInt(length) : upTo(64);
     }
 
     private void step() {
@@ -58,7 +68,7 @@ public final class LongRunsTest {
         }
         if (random.nextInt(2) == 0) {
             ask();
-        } else if (random.nextInt(6) == 0) {
+        } else if (random.nextInt(powerEvery) == 0) {
             power();
         } else {
             change();
@@ -110,7 +120,7 @@ public final class LongRunsTest {
                 check.due("object(" + object + ", " + what + ")", shelf.object(object, what), model.object(object, what));
             }
             case 4 -> {
-                int i = upTo(random.nextBoolean() ? 8 : 64);
+                int i = wordOf(object);
                 check.due("word(" + object + ", " + i + ")", shelf.word(object, i), model.word(object, i));
             }
             case 5 -> {

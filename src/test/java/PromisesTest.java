@@ -5,41 +5,8 @@ public final class PromisesTest {
     private static final int MAX = Integer.MAX_VALUE;
     private static final int[] NO_OBJECTS = {-1, 1, 23, 24, 25, MIN, MAX};
 
-    private static int wrong = 0;
-
     public static void main(String[] args) {
-        newObject();
-        create();
-        createTakesTheLeastFreeNumber();
-        createDown();
-        append();
-        appendFull();
-        appendRow();
-        appendRowEdges();
-        appendRowWrong();
-        open();
-        remove();
-        rename();
-        sync();
-        syncKeepsAll();
-        tear();
-        cut();
-        mount();
-        mountLosesWhatWasNotSynced();
-        tidy();
-        isUp();
-        objects();
-        room();
-        object();
-        word();
-        find();
-        list();
-        downAnswersNothing();
-        Check.end(wrong);
-    }
-
-    private static void done(Check c) {
-        wrong += c.wrong();
+        Check.runAll(PromisesTest.class);
     }
 
     /** Object 0 alone, with name 5, hint 1, words 10 and 11, OPEN. */
@@ -68,7 +35,7 @@ public final class PromisesTest {
         return x;
     }
 
-    private static void newObject() {
+    static void newObject() {
         Check c = new Check("1 a new object");
         ZoneShelf x = new ZoneShelf();
         c.due("isUp()", x.isUp(), true);
@@ -83,10 +50,9 @@ public final class PromisesTest {
         c.due("objects() of another shelf", x.objects(), 0);
         c.due("objects()", y.objects(), 1);
         c.due("NONE", ZoneShelf.NONE, -1);
-        done(c);
     }
 
-    private static void create() {
+    static void create() {
         Check c = new Check("2 create");
         ZoneShelf x = new ZoneShelf();
         c.due("create(0, 0)", x.create(0, 0), 0);
@@ -108,10 +74,9 @@ public final class PromisesTest {
         c.due("create(8, 2)", x.create(8, 2), 3);
         c.due("object(2, 1)", x.object(2, 1), 1);
         c.due("object(3, 1)", x.object(3, 1), 2);
-        done(c);
     }
 
-    private static void createTakesTheLeastFreeNumber() {
+    static void createTakesTheLeastFreeNumber() {
         Check c = new Check("2 create, numbers");
         ZoneShelf x = filled(24);
         c.due("objects()", x.objects(), 24);
@@ -129,10 +94,9 @@ public final class PromisesTest {
         c.due("word(3, 0)", x.word(3, 0), 0);
         c.due("create(103, 0), the removed one's name", x.create(103, 0), 9);
         c.due("create(2, 0)", x.create(2, 0), NONE);
-        done(c);
     }
 
-    private static void createDown() {
+    static void createDown() {
         Check c = new Check("2 create, DOWN");
         ZoneShelf x = down();
         c.due("create(6, 0)", x.create(6, 0), NONE);
@@ -140,10 +104,9 @@ public final class PromisesTest {
         c.due("objects()", x.objects(), 1);
         c.due("create(5, 0), its name is back", x.create(5, 0), NONE);
         c.due("create(6, 0)", x.create(6, 0), 1);
-        done(c);
     }
 
-    private static void append() {
+    static void append() {
         Check c = new Check("3 append");
         ZoneShelf x = new ZoneShelf();
         x.create(5, 0);
@@ -165,10 +128,9 @@ public final class PromisesTest {
         x.open(0, true);
         c.due("append(0, 8), OPEN again", x.append(0, 8), true);
         c.due("word(0, 5)", x.word(0, 5), 8);
-        done(c);
     }
 
-    private static void appendFull() {
+    static void appendFull() {
         Check c = new Check("3 append, full");
         ZoneShelf x = filled(5);
         for (int i = 0; i < 64; i++) {
@@ -187,10 +149,9 @@ public final class PromisesTest {
         c.due("object(4, 2)", x.object(4, 2), 1);
         x.remove(3);
         c.due("append(4, 3)", x.append(4, 3), true);
-        done(c);
     }
 
-    private static void appendRow() {
+    static void appendRow() {
         Check c = new Check("4 appendRow");
         ZoneShelf x = one();
         c.due("appendRow(0, 100, 3)", x.appendRow(0, 100, 3), true);
@@ -205,10 +166,9 @@ public final class PromisesTest {
         c.due("word(0, 6)", x.word(0, 6), MAX);
         c.due("word(0, 7), wrapped", x.word(0, 7), MIN);
         c.due("room()", x.room(), 192);
-        done(c);
     }
 
-    private static void appendRowEdges() {
+    static void appendRowEdges() {
         Check c = new Check("4 appendRow, edges");
         ZoneShelf x = filled(5);
         c.due("appendRow(0, 1, 65)", x.appendRow(0, 1, 65), false);
@@ -226,10 +186,9 @@ public final class PromisesTest {
         c.due("appendRow(3, 1, 8), 200 in all", x.appendRow(3, 1, 8), true);
         c.due("appendRow(4, 1, 1)", x.appendRow(4, 1, 1), false);
         c.due("room()", x.room(), 0);
-        done(c);
     }
 
-    private static void appendRowWrong() {
+    static void appendRowWrong() {
         Check c = new Check("4 appendRow, wrong");
         ZoneShelf x = one();
         String before = Picture.of(x);
@@ -243,10 +202,9 @@ public final class PromisesTest {
         x.open(0, false);
         c.due("appendRow(0, 1, 2), not OPEN", x.appendRow(0, 1, 2), false);
         c.due("object(0, 2)", x.object(0, 2), 2);
-        done(c);
     }
 
-    private static void open() {
+    static void open() {
         Check c = new Check("5 open");
         ZoneShelf x = filled(2);
         x.remove(1);
@@ -264,10 +222,9 @@ public final class PromisesTest {
             c.due("open(" + object + ", true)", x.open(object, true), false);
             c.due("open(" + object + ", false)", x.open(object, false), false);
         }
-        done(c);
     }
 
-    private static void remove() {
+    static void remove() {
         Check c = new Check("6 remove");
         ZoneShelf x = filled(3);
         x.appendRow(0, 1, 10);
@@ -288,10 +245,9 @@ public final class PromisesTest {
             c.due("remove(" + object + ")", x.remove(object), false);
         }
         c.due("objects()", x.objects(), 2);
-        done(c);
     }
 
-    private static void rename() {
+    static void rename() {
         Check c = new Check("7 rename");
         ZoneShelf x = filled(2);
         c.due("rename(0, 100), its own", x.rename(0, 100), false);
@@ -313,10 +269,9 @@ public final class PromisesTest {
             c.due("rename(" + object + ", 7)", x.rename(object, 7), false);
         }
         c.due("rename(0, 0), a removed one's", x.rename(0, 0), true);
-        done(c);
     }
 
-    private static void sync() {
+    static void sync() {
         Check c = new Check("8 sync");
         ZoneShelf x = one();
         String before = Picture.of(x);
@@ -332,7 +287,6 @@ public final class PromisesTest {
         x.cut();
         x.mount();
         c.due("objects(), a removal synced", x.objects(), 0);
-        done(c);
     }
 
     /** 22 of 24 objects with different words, some not OPEN. */
@@ -348,7 +302,7 @@ public final class PromisesTest {
         return x;
     }
 
-    private static void syncKeepsAll() {
+    static void syncKeepsAll() {
         Check c = new Check("8 sync, a crowded shelf");
         ZoneShelf x = crowded();
         x.sync();
@@ -363,10 +317,9 @@ public final class PromisesTest {
         x.mount();
         c.due("all after the mount", Picture.of(x), Picture.of(crowded()));
         c.due("create(1, 0), numbers are those of then", x.create(1, 0), 4);
-        done(c);
     }
 
-    private static void tear() {
+    static void tear() {
         Check c = new Check("9 tear");
         ZoneShelf x = one();
         x.sync();
@@ -384,10 +337,9 @@ public final class PromisesTest {
         y.mount();
         c.due("objects(), torn before the first sync", y.objects(), 0);
         c.due("room()", y.room(), 200);
-        done(c);
     }
 
-    private static void cut() {
+    static void cut() {
         Check c = new Check("10 cut");
         ZoneShelf x = new ZoneShelf();
         c.due("cut()", x.cut(), true);
@@ -397,10 +349,9 @@ public final class PromisesTest {
         c.due("isUp()", x.isUp(), false);
         x.mount();
         c.due("cut(), mounted", x.cut(), true);
-        done(c);
     }
 
-    private static void mount() {
+    static void mount() {
         Check c = new Check("11 mount");
         ZoneShelf x = one();
         String before = Picture.of(x);
@@ -413,10 +364,9 @@ public final class PromisesTest {
         c.due("objects(), none before the first sync", x.objects(), 0);
         c.due("find(5)", x.find(5), NONE);
         c.due("room()", x.room(), 200);
-        done(c);
     }
 
-    private static void mountLosesWhatWasNotSynced() {
+    static void mountLosesWhatWasNotSynced() {
         Check c = new Check("11 mount, changes after the sync");
         ZoneShelf x = filled(3);
         x.appendRow(0, 1, 4);
@@ -443,10 +393,9 @@ public final class PromisesTest {
         x.append(0, 9);
         x.mount();
         c.due("object(0, 2), a mount while UP loses nothing", x.object(0, 2), 5);
-        done(c);
     }
 
-    private static void tidy() {
+    static void tidy() {
         Check c = new Check("12 tidy");
         ZoneShelf x = one();
         x.sync();
@@ -462,10 +411,9 @@ public final class PromisesTest {
         c.due("isUp()", x.isUp(), false);
         x.mount();
         c.due("all after the mount: a tidy is no sync", Picture.of(x), synced);
-        done(c);
     }
 
-    private static void isUp() {
+    static void isUp() {
         Check c = new Check("13 isUp");
         ZoneShelf x = new ZoneShelf();
         x.sync();
@@ -479,10 +427,9 @@ public final class PromisesTest {
         c.due("isUp(), cut", x.isUp(), false);
         x.sync();
         c.due("isUp(), after a sync DOWN", x.isUp(), false);
-        done(c);
     }
 
-    private static void objects() {
+    static void objects() {
         Check c = new Check("14 objects");
         ZoneShelf x = new ZoneShelf();
         for (int i = 0; i < 24; i++) {
@@ -500,10 +447,9 @@ public final class PromisesTest {
         c.due("objects(), DOWN", x.objects(), 0);
         x.mount();
         c.due("objects(), mounted", x.objects(), 22);
-        done(c);
     }
 
-    private static void room() {
+    static void room() {
         Check c = new Check("15 room");
         ZoneShelf x = filled(4);
         c.due("room()", x.room(), 200);
@@ -524,10 +470,9 @@ public final class PromisesTest {
         x.open(2, false);
         x.open(3, false);
         c.due("room(), none OPEN with room", x.room(), 72);
-        done(c);
     }
 
-    private static void object() {
+    static void object() {
         Check c = new Check("16 object");
         ZoneShelf x = one();
         c.due("object(0, 0)", x.object(0, 0), 5);
@@ -544,10 +489,9 @@ public final class PromisesTest {
                 c.due("object(" + object + ", " + what + ")", x.object(object, what), NONE);
             }
         }
-        done(c);
     }
 
-    private static void word() {
+    static void word() {
         Check c = new Check("17 word");
         ZoneShelf x = filled(2);
         x.appendRow(0, 1, 64);
@@ -571,10 +515,9 @@ public final class PromisesTest {
         x.appendRow(0, 1, 1);
         x.cut();
         c.due("word(0, 0), DOWN", x.word(0, 0), 0);
-        done(c);
     }
 
-    private static void find() {
+    static void find() {
         Check c = new Check("18 find");
         ZoneShelf x = new ZoneShelf();
         x.create(9999, 0);
@@ -593,10 +536,9 @@ public final class PromisesTest {
         x.sync();
         x.cut();
         c.due("find(0), DOWN", x.find(0), NONE);
-        done(c);
     }
 
-    private static void list() {
+    static void list() {
         Check c = new Check("19 list");
         ZoneShelf x = new ZoneShelf();
         int[] names = {500, 9999, 10, 0, 1000, 9};
@@ -623,10 +565,9 @@ public final class PromisesTest {
         c.due("list(0), full", full.list(0), 23);
         c.due("list(23), full", full.list(23), 0);
         c.due("list(24), full", full.list(24), NONE);
-        done(c);
     }
 
-    private static void downAnswersNothing() {
+    static void downAnswersNothing() {
         Check c = new Check("2 .. 19, DOWN");
         ZoneShelf x = down();
         c.due("create(6, 0)", x.create(6, 0), NONE);
@@ -651,6 +592,5 @@ public final class PromisesTest {
         c.due("list(0)", x.list(0), NONE);
         x.mount();
         c.due("all after the mount", Picture.of(x), Picture.of(one()));
-        done(c);
     }
 }
